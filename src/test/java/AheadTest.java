@@ -7,6 +7,7 @@ public final class AheadTest {
         worstFillRefusals();
         worstFillSteps();
         worstFillIsAsRun();
+        sixtyTicks();
         wallsRefusals();
         wallsAreAsRun();
         wallsOfLikeOnes();
@@ -197,6 +198,23 @@ public final class AheadTest {
         return found;
     }
 
+    /** Ways on which the 60th tick, or the 61st, is the one with the greatest pull. */
+    private static void sixtyTicks() {
+        SloshTank x = new SloshTank();
+        x.tank(0, 2, 5, 50);
+        Checks.wayOf(x, "l59x50;r1x50;");
+        Checks.wayOf(x, "l59x50;s1;r1x50;");
+        x.sheet(0, 0, 0);
+        // A full tank pulls 500 to one side, a lean of 50 1000 to either.
+        Checks.due("the 60th is seen", x.worstFill(0, 0, 1), 10);
+        Checks.due("the 61st is not", x.worstFill(0, 1, 1), 0);
+        x.fill(0, 10);
+        Checks.due("no borders", x.walls(0, 0, 0, 0), 0);
+        Checks.due("the 60th is seen", x.wallsPull(), 1500);
+        Checks.due("no borders", x.walls(0, 0, 1, 0), 0);
+        Checks.due("the 61st is not", x.wallsPull(), 500);
+    }
+
     private static void wallsRefusals() {
         SloshTank x = new SloshTank();
         Checks.due("no tank", x.walls(0, 9, 9, 9), SloshTank.NONE);
@@ -330,7 +348,19 @@ public final class AheadTest {
         // 0, 15, -40, -20, 0: -45 at first, -45, -5, -20, 0, 0
         orderDue(x, 45, 0, 2, 1, 3, 4);
         Checks.due("5", x.drawOrder(5), SloshTank.NONE);
+        theLastOrder();
         triedAgain();
+    }
+
+    private static void theLastOrder() {
+        SloshTank x = new SloshTank();
+        int[] places = {-18, 42, -50, 41, -35};
+        for (int t = 0; t < 5; t++) {
+            x.tank(0, 2, 1, places[t]);
+            x.fill(t, 1);
+        }
+        // -20 at first, then 15, -26, 24, -18, 0: no other order stays below 27
+        orderDue(x, 26, 4, 3, 2, 1, 0);
     }
 
     private static void orderDue(SloshTank x, int far, int... order) {

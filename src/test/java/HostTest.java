@@ -39,8 +39,16 @@ public final class HostTest {
         Checks.due("refused", x.sheet(2, 2, -1), -14);
         Checks.due("it is still there", x.cell(2, 3, 4), 1);
         Checks.rowOf(x, 2, 2, 1, 2, 3, 4);
+        allZero(x);
+    }
+
+    /** A sheet that is laid anew: of it only an empty tank's levels are a record. */
+    private static void allZero(SloshTank x) {
         x.sheet(2, 2, 4);
-        Checks.due("all 0: columns 0", x.tanks(2, 2, 0, 1), 0);
+        x.tank(0, 2, 9, 0);
+        x.record(0, 0, -1, 2);
+        Checks.due("one fill", x.fits(0, 1, 0, 0), 1);
+        Checks.due("none at all", x.fits(0, 1, 0, 1), 0);
     }
 
     private static void cells() {
@@ -204,13 +212,15 @@ public final class HostTest {
             }
         }
         Checks.wayOf(x, "s1;s1;");
+        Checks.wayOf(x, "s1;");
         Checks.rowOf(x, 0, 0, 1, 2, 3, 4);
         x.record(0, 0, -1, 0);
         for (int what = 0; what < 3; what++) {
             Checks.due("place -1", x.taken(what, -1, 0), MISSING);
             Checks.due("place 5", x.taken(what, 5, 0), MISSING);
         }
-        Checks.due("nothing there", x.taken(1, 1, 6), MISSING);
+        Checks.due("nothing there", x.taken(1, 2, 6), MISSING);
+        Checks.due("another way", x.taken(1, 1, 6), 1);
         Checks.due("nothing there", x.taken(2, 1, 7), MISSING);
         Checks.due("a way", x.taken(1, 0, 6), 2);
         Checks.due("a record", x.taken(2, 0, 7), 4);

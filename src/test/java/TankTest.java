@@ -14,6 +14,7 @@ public final class TankTest {
         runs();
         kindsOfFlow();
         levelsAndLids();
+        justAHundredth();
         drawing();
         tipping();
         Checks.end("TankTest");
@@ -246,6 +247,17 @@ public final class TankTest {
         Checks.flowsDue(dry, 0, 288);
     }
 
+    private static void justAHundredth() {
+        SloshTank x = new SloshTank();
+        x.tank(2, 2, 9, 0);
+        x.fill(0, 8);
+        x.lean(40);
+        x.run(1);
+        // a bag's push is 20: 200, half of it is lost, a hundredth of 100 goes over
+        Checks.flowsDue(x, 0, 100);
+        Checks.levelsDue(x, 0, 3, 5);
+    }
+
     private static void drawing() {
         SloshTank x = new SloshTank();
         x.tank(2, 2, 10, 0);
@@ -268,6 +280,12 @@ public final class TankTest {
         Checks.due("the first gulps, too", x.feedTold(0, 4), 1);
         Checks.due("the first tick stays", x.feedTold(1, 4), 0);
         Checks.due("gulped grows", x.feedTold(1, 3), 6);
+        x.fill(0, 13);
+        x.run(1);
+        Checks.due("the first had 7 of 7 to share", x.feedTold(0, 3), 3);
+        x.fill(0, 11);
+        x.run(1);
+        Checks.due("the second lacks one", x.feedTold(1, 3), 7);
     }
 
     private static void tipping() {
