@@ -291,7 +291,8 @@ public final class SloshTank {
         int step = rig.tanks[t].fillStep(by);
         int found = 0;
         int greatest = -1;
-        for (int all = 0; all <= room; all += step) {
+        for (int k = 0; k <= FILL_PARTS && k * step <= room; k++) {
+            int all = k * step;
             beginTrial(y);
             trial.settle(t, all);
             trial.passTicks(AHEAD);
@@ -380,7 +381,8 @@ public final class SloshTank {
         int many = 0;
         int least = STATE;
         int greatest = STATE;
-        for (int all = 0; all <= room; all += step) {
+        for (int k = 0; k <= FILL_PARTS && k * step <= room; k++) {
+            int all = k * step;
             if (letsRecordsBe(t, all, off)) {
                 least = many == 0 ? all : least;
                 greatest = all;
@@ -655,7 +657,7 @@ public final class SloshTank {
             return within(c, 0, columns - 2);
         }
 
-        /** By how much each fill that is tried is more: never more than 25 fills. */
+        /** By how much each fill that is tried is more: so that FILL_PARTS steps reach up to the room. */
         int fillStep(int by) {
             return Math.max(by, (room() + FILL_PARTS - 1) / FILL_PARTS);
         }
@@ -861,7 +863,7 @@ public final class SloshTank {
             int push = 10 * Kind.push(tank.kind, lean);
             int damp = Kind.damp(tank.kind);
             int through = Kind.through(tank.kind);
-            for (int c = 0; tank.hasBorder(c); c++) {
+            for (int c = 0; c < tank.columns - 1; c++) {
                 int flow = flows[t][c] + 20 * (level[c] - level[c + 1]) + push;
                 flow -= flow * damp / 100;
                 if ((tank.wallBits >> c & 1) != 0) {
