@@ -1,18 +1,21 @@
-/** Promises 21 to 25: what would be. Each search is tried again by running, and going back. */
+/** Promises 21 to 25: what would be. Each search is tried again by running like objects. */
 public final class AheadTest {
     public static void main(String[] args) {
         besideRefusals();
         besideIsAsRun();
         besideOnAWay();
         worstFillRefusals();
-        worstFillSteps();
         worstFillIsAsRun();
-        sixtyTicks();
         wallsRefusals();
         wallsAreAsRun();
         wallsOfLikeOnes();
         drawOrders();
         Checks.end("AheadTest");
+    }
+
+    /** Makes an object anew, always the same: an object that has been run is not asked much more, as 512 calls are its end. */
+    interface Maker {
+        SloshTank make();
     }
 
     /** Four tanks of other kinds, a mouth in each of two, two ways; it is on the first one. */
@@ -41,7 +44,7 @@ public final class AheadTest {
         return x;
     }
 
-    /** The worst pull of so many ticks, by running them; everything is as it was behind it. */
+    /** The worst pull of so many ticks, by running them. */
     private static int worstByRunning(SloshTank x, int n) {
         int worst = 0;
         for (int k = 0; k < n; k++) {
@@ -146,73 +149,42 @@ public final class AheadTest {
         Checks.due("by 1", x.worstFill(0, -1, 1), 2);
     }
 
-    /** Grown far to one side, the fullest fill that is tried pulls most: which one that is. */
-    private static void worstFillSteps() {
-        // columns, high, by, the greatest fill tried
-        int[][] due = {
-            {2, 1, 1, 2}, {2, 12, 1, 24}, {5, 5, 1, 24}, {5, 5, 2, 24}, {5, 5, 3, 24}, {5, 5, 5, 25},
-            {7, 7, 1, 48}, {7, 7, 3, 48}, {7, 7, 4, 48}, {7, 7, 49, 49}, {7, 7, 50, 0}, {12, 99, 1, 1150},
-            {12, 99, 1188, 1188}, {12, 99, 1200, 0}, {6, 20, 7, 119}, {4, 6, 1, 24}
-        };
-        for (int[] row : due) {
-            SloshTank x = new SloshTank();
-            x.tank(2, row[0], row[1], 50);
-            Checks.due("of " + row[0] * row[1] + " by " + row[2], x.worstFill(0, -1, row[2]), row[3]);
-        }
-    }
-
     private static void worstFillIsAsRun() {
         for (int seed = 0; seed < 6; seed++) {
+            int of = seed;
             SloshTank x = loaded(seed);
-            for (int t = 0; t < 4; t++) {
-                String was = Checks.look(x);
-                int told = x.worstFill(t, -1, 3);
-                Checks.holds("nothing changes", was.equals(Checks.look(x)));
-                Checks.due("worst fill, as now", told, worstFillByRunning(x, t, -1, 3));
-            }
             SloshTank y = onNoWay(seed);
+            String was = Checks.look(x);
             for (int t = 0; t < 4; t++) {
-                Checks.due("worst fill, on a way", y.worstFill(t, t % 2, 1), worstFillByRunning(y, t, t % 2, 1));
+                Checks.due("worst fill, as now", x.worstFill(t, -1, 3), worstFillByRunning(() -> loaded(of), t, -1, 3));
+                Checks.due("worst fill, on a way", y.worstFill(t, t % 2, 1), worstFillByRunning(() -> onNoWay(of), t, t % 2, 1));
             }
+            Checks.holds("nothing changes", was.equals(Checks.look(x)));
         }
     }
 
-    private static int worstFillByRunning(SloshTank x, int t, int y, int by) {
-        int room = x.tankTold(t, 4);
+    private static int worstFillByRunning(Maker maker, int t, int y, int by) {
+        int room = maker.make().tankTold(t, 4);
         int step = Math.max(by, (room + 23) / 24);
         int found = -1;
         int greatest = -1;
-        x.image();
         for (int all = 0; all <= room; all += step) {
+            SloshTank x = maker.make();
             x.fill(t, all);
-            if (y >= 0) {
-                Checks.due("go", x.go(y), y);
-            }
+            setOut(x, y);
             int worst = worstByRunning(x, 60);
             if (worst > greatest) {
                 greatest = worst;
                 found = all;
             }
-            x.back();
         }
         return found;
     }
 
-    /** Ways on which the 60th tick, or the 61st, is the one with the greatest pull. */
-    private static void sixtyTicks() {
-        SloshTank x = new SloshTank();
-        x.tank(0, 2, 5, 50);
-        Checks.wayOf(x, "l59x50;r1x50;");
-        Checks.wayOf(x, "l59x50;s1;r1x50;");
-        x.sheet(0, 0, 0);
-        // A full tank pulls 500 to one side, a lean of 50 1000 to either.
-        Checks.due("the 60th is seen", x.worstFill(0, 0, 1), 10);
-        Checks.due("the 61st is not", x.worstFill(0, 1, 1), 0);
-        x.fill(0, 10);
-        Checks.due("no borders", x.walls(0, 0, 0, 0), 0);
-        Checks.due("the 60th is seen", x.wallsPull(), 1500);
-        Checks.due("no borders", x.walls(0, 0, 1, 0), 0);
-        Checks.due("the 61st is not", x.wallsPull(), 500);
+    private static void setOut(SloshTank x, int y) {
+        if (y >= 0) {
+            Checks.due("go", x.go(y), y);
+        }
     }
 
     private static void wallsRefusals() {
@@ -250,50 +222,44 @@ public final class AheadTest {
 
     private static void wallsAreAsRun() {
         int[][] rows = {{1, 0, 2}, {2, 2, 1}, {0, 1, 2, 3}, {3}};
+        int[] tanks = {0, 1, 0, 2};
         int sets = 0;
         for (int seed = 0; seed < 6; seed++) {
-            SloshTank x = seed < 3 ? loaded(seed) : onNoWay(seed);
-            int[] tanks = {0, 1, 0, 2};
+            int of = seed;
+            Maker maker = seed < 3 ? () -> loaded(of) : () -> onNoWay(of);
             for (int k = 0; k < rows.length; k++) {
-                int y = seed < 3 ? -1 : k % 2;
-                for (int most = 0; most <= rows[k].length; most += 2) {
-                    Checks.rowOf(x, 1, 1, rows[k]);
-                    String was = Checks.look(x);
-                    int told = x.walls(tanks[k], 1, y, most);
-                    int pull = x.wallsPull();
-                    Checks.holds("nothing changes", was.substring(0, 300).equals(Checks.look(x).substring(0, 300)));
-                    Checks.due("walls", told, wallsByRunning(x, tanks[k], rows[k], y, most, pull));
-                    sets += told;
-                }
+                sets += wallsAreAsRun(maker, tanks[k], rows[k], seed < 3 ? -1 : k % 2);
             }
         }
         Checks.holds("some sets have walls", sets > 0);
     }
 
-    private static int wallsByRunning(SloshTank x, int t, int[] row, int y, int most, int pull) {
-        int columns = x.taken(0, t, 0);
-        int[] stood = new int[columns - 1];
-        for (int c = 0; c < columns - 1; c++) {
-            stood[c] = x.wall(t, c, 0);
-            x.wall(t, c, stood[c]);
+    private static int wallsAreAsRun(Maker maker, int t, int[] row, int y) {
+        int sets = 0;
+        for (int most = 0; most <= row.length; most += 2) {
+            SloshTank x = maker.make();
+            Checks.rowOf(x, 1, 1, row);
+            int told = x.walls(t, 1, y, most);
+            int pull = x.wallsPull();
+            String was = Checks.look(x);
+            Checks.due("walls", told, wallsByRunning(maker, t, row, y, most, pull));
+            Checks.due("once more", x.walls(t, 1, y, most), told);
+            Checks.holds("nothing changes", was.equals(Checks.look(x)));
+            sets += told;
         }
+        return sets;
+    }
+
+    private static int wallsByRunning(Maker maker, int t, int[] row, int y, int most, int pull) {
         int found = -1;
         int least = Integer.MAX_VALUE;
-        x.image();
         for (int many = 0; many <= most; many++) {
             for (int set = 0; set < 1 << row.length; set++) {
-                if (Integer.bitCount(set) != many) {
-                    continue;
-                }
-                int worst = worstByWalls(x, t, row, y, set);
+                int worst = Integer.bitCount(set) == many ? worstByWalls(maker.make(), t, row, y, set) : Integer.MAX_VALUE;
                 if (worst < least) {
                     least = worst;
                     found = set;
                 }
-                for (int c = 0; c < columns - 1; c++) {
-                    x.wall(t, c, stood[c]);
-                }
-                x.back();
             }
         }
         Checks.due("wallsPull", pull, least);
@@ -309,9 +275,7 @@ public final class AheadTest {
                 x.wall(t, row[i], 1);
             }
         }
-        if (y >= 0) {
-            x.go(y);
-        }
+        setOut(x, y);
         return worstByRunning(x, 60);
     }
 
@@ -348,19 +312,7 @@ public final class AheadTest {
         // 0, 15, -40, -20, 0: -45 at first, -45, -5, -20, 0, 0
         orderDue(x, 45, 0, 2, 1, 3, 4);
         Checks.due("5", x.drawOrder(5), SloshTank.NONE);
-        theLastOrder();
         triedAgain();
-    }
-
-    private static void theLastOrder() {
-        SloshTank x = new SloshTank();
-        int[] places = {-18, 42, -50, 41, -35};
-        for (int t = 0; t < 5; t++) {
-            x.tank(0, 2, 1, places[t]);
-            x.fill(t, 1);
-        }
-        // -20 at first, then 15, -26, 24, -18, 0: no other order stays below 27
-        orderDue(x, 26, 4, 3, 2, 1, 0);
     }
 
     private static void orderDue(SloshTank x, int far, int... order) {
@@ -374,20 +326,24 @@ public final class AheadTest {
         int seed = 7;
         for (int k = 0; k < 40; k++) {
             SloshTank x = new SloshTank();
+            int[] loads = new int[5];
             for (int t = 0; t < 5; t++) {
                 seed = seed * 1103515245 + 12345;
-                x.tank(0, 3, 9, (seed >>> 16) % 101 - 50);
+                int place = (seed >>> 16) % 101 - 50;
                 seed = seed * 1103515245 + 12345;
-                x.fill(t, (seed >>> 16) % 28);
+                int all = (seed >>> 16) % 28;
+                x.tank(0, 3, 9, place);
+                x.fill(t, all);
+                loads[t] = place * all;
             }
             int[] order = new int[5];
-            int far = orderByTrying(x, order);
+            int far = orderByTrying(loads, order);
             orderDue(x, far, order);
         }
     }
 
     /** All orders, as numbers in base 5 from the least one on. */
-    private static int orderByTrying(SloshTank x, int[] found) {
+    private static int orderByTrying(int[] loads, int[] found) {
         int least = Integer.MAX_VALUE;
         for (int code = 0; code < 3125; code++) {
             int[] order = {code / 625, code / 125 % 5, code / 25 % 5, code / 5 % 5, code % 5};
@@ -395,7 +351,7 @@ public final class AheadTest {
             for (int t : order) {
                 seen |= 1 << t;
             }
-            int far = seen == 31 ? farFromEven(x, order) : Integer.MAX_VALUE;
+            int far = seen == 31 ? farFromEven(loads, order) : Integer.MAX_VALUE;
             if (far < least) {
                 least = far;
                 System.arraycopy(order, 0, found, 0, 5);
@@ -404,27 +360,15 @@ public final class AheadTest {
         return least;
     }
 
-    private static int farFromEven(SloshTank x, int[] order) {
+    private static int farFromEven(int[] loads, int[] order) {
         int far = 0;
         for (int gone = 0; gone <= 5; gone++) {
             int sum = 0;
             for (int k = gone; k < 5; k++) {
-                sum += x.tankTold(order[k], 1) * placeOf(x, order[k]);
+                sum += loads[order[k]];
             }
             far = Math.max(far, Math.abs(sum));
         }
         return far;
-    }
-
-    /** Told by the moment: of one more in its first column the moment grows by its place less its columns but 1. */
-    private static int placeOf(SloshTank x, int t) {
-        x.image();
-        for (int other = 0; other < 5; other++) {
-            x.fill(other, 0);
-        }
-        x.fill(t, 1);
-        int place = x.pulls(0) + x.taken(0, t, 0) - 1;
-        x.back();
-        return place;
     }
 }

@@ -18,6 +18,18 @@ final class Checks {
         due(what, is ? 1 : 0, 1);
     }
 
+    /** Two texts of lines: of unlike ones the first line that differs is told. */
+    static void same(String what, String got, String want) {
+        String[] gotLines = got.split("\n");
+        String[] wantLines = want.split("\n");
+        int at = 0;
+        while (at < gotLines.length && at < wantLines.length && gotLines[at].equals(wantLines[at])) {
+            at++;
+        }
+        String differs = at < gotLines.length ? ": line " + at + " is " + gotLines[at] : "";
+        due(what + (got.equals(want) ? "" : differs), got.equals(want) ? 1 : 0, 1);
+    }
+
     /** To be called last: the exit code tells whether all was as due. */
     static void end(String test) {
         System.out.println(test + ": " + (checked - wrong) + " of " + checked + " answers are as due");
@@ -64,36 +76,45 @@ final class Checks {
         }
     }
 
-    /** All that can be looked at without changing anything, as one text. */
+    /** All that can be looked at without changing anything, as one text of lines: some hundred calls. */
     static String look(SloshTank x) {
         StringBuilder seen = new StringBuilder();
         for (int what = 0; what <= 9; what++) {
-            seen.append(x.count(what)).append(' ');
+            line(seen, "count", x.count(what));
         }
-        for (int t = 0; t < 5; t++) {
+        for (int t = 0, tanks = x.count(1); t < tanks; t++) {
             for (int what = 0; what <= 4; what++) {
-                seen.append(x.tankTold(t, what)).append(' ');
+                line(seen, "tankTold", x.tankTold(t, what));
             }
-            for (int c = 0; c < 12; c++) {
-                seen.append(x.level(t, c)).append(' ').append(x.flow(t, c)).append(' ');
+            for (int c = 0, columns = x.taken(0, t, 0); c < columns; c++) {
+                line(seen, "level", x.level(t, c));
+                line(seen, "flow", x.flow(t, c));
             }
         }
-        for (int f = 0; f < 6; f++) {
+        for (int f = 0, mouths = x.count(2); f < mouths; f++) {
             for (int what = 0; what <= 4; what++) {
-                seen.append(x.feedTold(f, what)).append(' ');
+                line(seen, "feedTold", x.feedTold(f, what));
             }
         }
-        for (int y = 0; y < 6; y++) {
-            int legs = x.wayTold(y, 0, 0);
-            seen.append(legs).append(' ');
-            for (int leg = 0; leg < legs; leg++) {
-                seen.append(x.wayTold(y, leg, 1)).append(' ').append(x.wayTold(y, leg, 2)).append(' ');
-            }
+        lookAhead(x, seen);
+        return seen.toString();
+    }
+
+    private static void lookAhead(SloshTank x, StringBuilder seen) {
+        for (int y = 0, ways = x.count(7); y < ways; y++) {
+            line(seen, "legs", x.wayTold(y, 0, 0));
         }
-        for (int r = 0; r < 8; r++) {
-            seen.append(x.taken(2, r, 7)).append(' ');
+        for (int r = 0, records = x.count(9); r < records; r++) {
+            line(seen, "levels", x.taken(2, r, 7));
         }
-        seen.append(x.pulls(0)).append(' ').append(x.pulls(1)).append(' ').append(x.wallsPull());
-        return seen.append(' ').append(x.beside(-1, 30, 0)).append(' ').append(x.beside(-1, 30, 3)).toString();
+        line(seen, "moment", x.pulls(0));
+        line(seen, "pull", x.pulls(1));
+        line(seen, "wallsPull", x.wallsPull());
+        line(seen, "beside", x.beside(-1, 30, 0));
+        line(seen, "above GRIP", x.beside(-1, 30, 3));
+    }
+
+    static void line(StringBuilder all, String what, long answer) {
+        all.append(what).append(' ').append(answer).append('\n');
     }
 }

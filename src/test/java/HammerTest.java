@@ -9,6 +9,9 @@ public final class HammerTest {
     };
     private static final String SIGNS = "slrx;():0123456789";
 
+    private static final int CALLS_OF_A_WAY = 5;
+    private static final int CALLS_OF_A_BALANCE = 100;
+
     private long seed;
 
     private HammerTest(long seed) {
@@ -17,7 +20,10 @@ public final class HammerTest {
 
     public static void main(String[] args) {
         for (int k = 0; k < 250; k++) {
-            new HammerTest(k * 7919L + 1).hammer(k);
+            new HammerTest(k * 7919L + 1).hammer();
+        }
+        for (int k = 0; k < 3000; k++) {
+            new HammerTest(k * 104729L + 3).refusal(20 + k % 60);
         }
         emptyObject();
         Checks.end("HammerTest");
@@ -33,25 +39,29 @@ public final class HammerTest {
         return next(8) == 0 ? WILD[next(WILD.length)] : next(below);
     }
 
-    private void hammer(int k) {
+    /** As many calls as an object is used for, with those that look at it in the end. */
+    private void hammer() {
         SloshTank x = new SloshTank();
-        for (int n = 0; n < 512; n++) {
-            boolean looks = n % 16 == 0;
-            String was = looks ? Checks.look(x) : "";
+        int left = 512 - CALLS_OF_A_BALANCE;
+        while (left >= CALLS_OF_A_WAY) {
             int call = next(33);
-            long answer = 0;
-            try {
-                answer = call(x, call);
-            } catch (RuntimeException thrown) {
-                Checks.holds("object " + k + ", call " + n + " of sort " + call + " threw " + thrown, false);
-                return;
-            }
-            if (looks && answer < 0 && !mayChange(call)) {
-                Checks.holds("a refusal of call " + call + " changes nothing", was.equals(Checks.look(x)));
-            }
-            if (n % 64 == 63) {
-                balanced(x);
-            }
+            left -= call == 11 ? CALLS_OF_A_WAY : 1;
+            quiet("call " + call, () -> call(x, call));
+        }
+        balanced(x);
+    }
+
+    /** Some calls, then one more: if it is a refusal, all that shows is as it was. */
+    private void refusal(int calls) {
+        SloshTank x = new SloshTank();
+        for (int n = 0; n < calls; n++) {
+            call(x, next(33));
+        }
+        String was = Checks.look(x);
+        int call = next(33);
+        long answer = call(x, call);
+        if (answer < 0 && !mayChange(call)) {
+            Checks.same("a refusal of call " + call + " changes nothing", Checks.look(x), was);
         }
     }
 
@@ -63,12 +73,15 @@ public final class HammerTest {
     /** Of each tank what was put in is there, or out; and what is out was drawn or thrown. */
     private static void balanced(SloshTank x) {
         int out = 0;
-        for (int t = 0; t < x.count(1); t++) {
-            Checks.due("in and out", x.tankTold(t, 1) + x.tankTold(t, 3), x.tankTold(t, 2));
-            out += x.tankTold(t, 3);
-            for (int c = 0; c < x.taken(0, t, 0); c++) {
-                int high = x.tankTold(t, 4) / x.taken(0, t, 0);
-                Checks.holds("a level", x.level(t, c) >= 0 && x.level(t, c) <= high);
+        for (int t = 0, tanks = x.count(1); t < tanks; t++) {
+            int outOfIt = x.tankTold(t, 3);
+            Checks.due("in and out", x.tankTold(t, 1) + outOfIt, x.tankTold(t, 2));
+            out += outOfIt;
+            int columns = x.taken(0, t, 0);
+            int high = x.tankTold(t, 4) / columns;
+            for (int c = 0; c < columns; c++) {
+                int level = x.level(t, c);
+                Checks.holds("a level", level >= 0 && level <= high);
             }
         }
         Checks.due("drawn and thrown", x.count(4) + x.count(5), out);
@@ -126,40 +139,40 @@ public final class HammerTest {
         return next(9) == 0 ? seed : w;
     }
 
-    /** Each call with each wild number on an object that has nothing. */
+    /** Each call with each two wild numbers on an object that has nothing. */
     private static void emptyObject() {
-        SloshTank x = new SloshTank();
         for (int v : WILD) {
             for (int w : WILD) {
-                quiet(() -> x.wall(v, w, 0));
-                quiet(() -> x.fill(v, w));
-                quiet(() -> x.feed(v, w));
-                quiet(() -> x.draw(v, w));
-                quiet(() -> x.level(v, w));
-                quiet(() -> x.flow(v, w));
-                quiet(() -> x.tankTold(v, w));
-                quiet(() -> x.feedTold(v, w));
-                quiet(() -> x.wayTold(v, w, 1));
-                quiet(() -> x.bar(v, w));
-                quiet(() -> x.cell(v, w, w));
-                quiet(() -> x.taken(1, v, w));
-                quiet(() -> x.walls(v, w, -1, 0));
-                quiet(() -> x.beside(v, w, 0));
-                quiet(() -> x.kindTold(v, 0, w));
+                SloshTank x = new SloshTank();
+                quiet("wall", () -> x.wall(v, w, 0));
+                quiet("fill", () -> x.fill(v, w));
+                quiet("feed", () -> x.feed(v, w));
+                quiet("draw", () -> x.draw(v, w));
+                quiet("level", () -> x.level(v, w));
+                quiet("flow", () -> x.flow(v, w));
+                quiet("tankTold", () -> x.tankTold(v, w));
+                quiet("feedTold", () -> x.feedTold(v, w));
+                quiet("wayTold", () -> x.wayTold(v, w, 1));
+                quiet("bar", () -> x.bar(v, w));
+                quiet("cell", () -> x.cell(v, w, w));
+                quiet("taken", () -> x.taken(1, v, w));
+                quiet("walls", () -> x.walls(v, w, -1, 0));
+                quiet("beside", () -> x.beside(v, w, 0));
+                quiet("kindTold", () -> x.kindTold(v, 0, w));
+                quiet("drawOrder", () -> x.drawOrder(v));
+                quiet("count", () -> x.count(v));
+                quiet("pulls", () -> x.pulls(v));
+                quiet("go", () -> x.go(v));
+                Checks.due("nothing came", x.count(1) + x.count(2) + x.count(7) + x.count(9), 0);
             }
-            quiet(() -> x.drawOrder(v));
-            quiet(() -> x.count(v));
-            quiet(() -> x.pulls(v));
-            quiet(() -> x.go(v));
         }
-        Checks.due("nothing came", x.count(1) + x.count(2) + x.count(7) + x.count(9), 0);
     }
 
-    private static void quiet(LongSupplier call) {
+    private static void quiet(String what, LongSupplier call) {
         try {
             call.getAsLong();
         } catch (RuntimeException thrown) {
-            Checks.holds("a call threw " + thrown, false);
+            Checks.holds(what + " threw " + thrown, false);
         }
     }
 }

@@ -103,11 +103,11 @@ public final class LanguageTest {
         long before = threads.getCurrentThreadAllocatedBytes();
         long nothing = threads.getCurrentThreadAllocatedBytes() - before;
         before = threads.getCurrentThreadAllocatedBytes();
-        for (int k = 0; k < 60; k++) {
+        for (int k = 0; k < 40; k++) {
             dearCalls(x);
         }
         long made = threads.getCurrentThreadAllocatedBytes() - before - nothing;
-        Checks.holds("480 calls made " + made + " bytes", made < 100_000);
+        Checks.holds("440 calls made " + made + " bytes", made < 100_000);
     }
 
     private static SloshTank full() {

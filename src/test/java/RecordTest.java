@@ -118,71 +118,76 @@ public final class RecordTest {
         Checks.due("off by 2: the levels 0", x.fits(0, 1, 2, 0), 1);
     }
 
-    /** Columns of two tanks on ways, tried again by running. */
+    /** Columns of two tanks on ways, tried again by running like objects: an object is asked 512 times at most. */
     private static void fitsAreAsRun() {
         int fitting = 0;
         for (int kind = 0; kind < 6; kind++) {
-            SloshTank x = new SloshTank();
-            x.tank(0, 3, 9, 5);
-            x.tank(kind, 5, 11, 0);
-            x.fill(0, 20);
-            x.fill(1, 31);
-            x.feed(1, 1);
-            x.draw(0, 1);
-            x.wall(1, 2, 1);
-            x.lean(8);
-            Checks.wayOf(x, "l9x30;r9x20;");
-            x.run(3);
             for (int y = -1; y < 1; y++) {
-                x.image();
-                x.fill(1, 27);
-                if (y >= 0) {
-                    x.go(y);
+                SloshTank x = swinging(kind);
+                int[] seen = levelsByRunning(kind, y, 27);
+                for (int k = 3; k < 12; k += 5) {
+                    seen[k] = -1;
                 }
-                int[] seen = new int[12];
-                for (int k = 0; k < 12; k++) {
-                    x.run(1);
-                    seen[k] = k % 5 == 3 ? -1 : x.level(1, 3 + y);
-                }
-                x.back();
                 Checks.rowOf(x, 2, 1, seen);
                 x.record(1, 3 + y, y, 2);
+                String was = Checks.look(x);
                 for (int off = 0; off < 4; off++) {
-                    fitting += tryAgain(x, off, y, seen);
+                    fitting += tryAgain(x, kind, off, y, seen);
                 }
-                x.bar(x.count(9) - 1, 1);
+                Checks.holds("nothing changes", was.equals(Checks.look(x)));
             }
         }
         Checks.holds("some fit, not all", fitting > 12 && fitting < 12 * 4 * 19);
     }
 
-    private static int tryAgain(SloshTank x, int off, int y, int[] seen) {
+    private static SloshTank swinging(int kind) {
+        SloshTank x = new SloshTank();
+        x.tank(0, 3, 9, 5);
+        x.tank(kind, 5, 11, 0);
+        x.fill(0, 20);
+        x.fill(1, 31);
+        x.feed(1, 1);
+        x.draw(0, 1);
+        x.wall(1, 2, 1);
+        x.lean(8);
+        Checks.wayOf(x, "l9x30;r9x20;");
+        x.run(3);
+        return x;
+    }
+
+    private static int[] levelsByRunning(int kind, int y, int all) {
+        SloshTank x = swinging(kind);
+        x.fill(1, all);
+        if (y >= 0) {
+            x.go(y);
+        }
+        int[] levels = new int[12];
+        for (int k = 0; k < 12; k++) {
+            x.run(1);
+            levels[k] = x.level(1, 3 + y);
+        }
+        return levels;
+    }
+
+    private static int tryAgain(SloshTank x, int kind, int off, int y, int[] seen) {
         int many = 0;
         int least = SloshTank.STATE;
         int greatest = SloshTank.STATE;
-        x.image();
         for (int all = 0; all <= 55; all += 3) {
-            x.fill(1, all);
-            if (y >= 0) {
-                x.go(y);
-            }
+            int[] levels = levelsByRunning(kind, y, all);
             boolean is = true;
-            for (int v : seen) {
-                x.run(1);
-                is = is && (v == -1 || Math.abs(v - x.level(1, 3 + y)) <= off);
+            for (int k = 0; k < 12; k++) {
+                is = is && (seen[k] == -1 || Math.abs(seen[k] - levels[k]) <= off);
             }
-            x.back();
             if (is) {
                 least = many == 0 ? all : least;
                 greatest = all;
                 many++;
             }
         }
-        String was = Checks.look(x);
         Checks.due("how many", x.fits(1, 1, off, 0), many);
         Checks.due("the least", x.fits(1, 2, off, 1), least);
         Checks.due("the greatest", x.fits(1, 3, off, 2), greatest);
-        Checks.holds("nothing changes", was.equals(Checks.look(x)));
         return many;
     }
 }
