@@ -318,7 +318,9 @@ public final class EdgeHostTest {
     }
 
     private static void tanksLeftOut() {
-        int[][] bad = {{-1, 2, 1, 0}, {6, 2, 1, 0}, {0, 1, 1, 0}, {0, 13, 1, 0}, {0, 2, 0, 0}, {0, 2, 100, 0}, {0, 2, 1, -51}, {0, 2, 1, 51}};
+        int[][] bad = {
+            {-1, 2, 1, 0}, {6, 2, 1, 0}, {0, 1, 1, 0}, {0, 13, 1, 0}, {0, 2, 0, 0}, {0, 2, 100, 0}, {0, 2, 1, -51}, {0, 2, 1, 51}
+        };
         for (int[] row : bad) {
             SloshTank x = new SloshTank();
             Checks.rowOf(x, 0, BYTES, 2, 3, 4, 5, row[0], row[1], row[2], row[3], 3, 4, 5, 2);
