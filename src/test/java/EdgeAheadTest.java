@@ -312,7 +312,29 @@ public final class EdgeAheadTest {
         for (int c : new int[] {0, 1, 3}) {
             Checks.due("promise 23: none stands at " + c, x.wall(0, c, 0), 0);
         }
+        oneThatIsNotTold();
         Scenes.changesNothing("promise 23: walls once more", s -> s.walls(0, 0, -1, 2));
+    }
+
+    /** Each border in turn has a wall that no sheet tells: by sheets of none, of one, and of all the others. */
+    private static void oneThatIsNotTold() {
+        int[] due = {242, 226, 224, 242};
+        for (int c = 0; c < 4; c++) {
+            SloshTank x = one(3, 5, 19, 40, "r20x10;");
+            Checks.due("promise 21: without a wall", x.beside(0, 60, 0), 272);
+            x.wall(0, c, 1);
+            wallOfNowDue(x, c);
+            wallOfNowDue(x, c, (c + 1) % 4);
+            wallOfNowDue(x, c, (c + 1) % 4, (c + 2) % 4, (c + 3) % 4);
+            Checks.due("promise 24: with a wall at " + c, x.wallsPull(), due[c]);
+        }
+    }
+
+    private static void wallOfNowDue(SloshTank x, int c, int... told) {
+        int with = x.beside(0, 60, 0);
+        Checks.rowOf(x, 0, 2, told);
+        Checks.due("promise 23: none at most", x.walls(0, 0, 0, 0), 0);
+        Checks.due("promise 24: with a wall at " + c + ", told are " + told.length, x.wallsPull(), with);
     }
 
     private static void sixtyTicksOfWalls() {

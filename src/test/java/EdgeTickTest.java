@@ -5,6 +5,7 @@ public final class EdgeTickTest {
         legsOfNoTicks();
         wayWithoutLegs();
         lastTickOfAWay();
+        lastOfTwelveLegs();
         aLeanOnAWay();
         bordersOneByOne();
         dampIsCut();
@@ -97,6 +98,16 @@ public final class EdgeTickTest {
         leansDue("a LEAN on no WAY stays", x, 5, 5);
         Checks.due("promise 9: it is on no WAY", x.go(0), 0);
         leansDue("the same WAY from its start", x, -7, -7, 0);
+    }
+
+    private static void lastOfTwelveLegs() {
+        leansDue("twelve legs", onWay("(6:l1x1;r1x2;)"), -1, 2, -1, 2, -1, 2, -1, 2, -1, 2, -1, 2, 0, 0);
+        leansDue("twelve legs of no TICKS", onWay("(12:r0x9;)"), 0, 0);
+        SloshTank x = new SloshTank();
+        Checks.due("promise 11: a FAULT behind three legs", Checks.wayOf(x, "r1x5;r1x6;r1x7;q"), -115);
+        Checks.wayOf(x, "r1x8;");
+        x.go(0);
+        leansDue("legs of a FAULT are none of the next WAY", x, 8, 0);
     }
 
     private static void aLeanOnAWay() {
