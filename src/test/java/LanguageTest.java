@@ -26,6 +26,7 @@ public final class LanguageTest {
         barredWords(source);
         imports(source);
         face();
+        sizes();
         lengths(source);
         room();
         Checks.end("LanguageTest");
@@ -67,7 +68,6 @@ public final class LanguageTest {
             int is = f.getModifiers();
             Checks.holds(f.getName() + " is told", Modifier.isPublic(is) == constants.contains(f.getName()));
             Checks.holds(f.getName() + " is public or private", Modifier.isPublic(is) || Modifier.isPrivate(is));
-            Checks.holds(f.getName() + ", if static, is final", !Modifier.isStatic(is) || Modifier.isFinal(is));
         }
         for (Class<?> c : SloshTank.class.getDeclaredClasses()) {
             Checks.holds(c.getName() + " is static", Modifier.isStatic(c.getModifiers()));
@@ -76,6 +76,26 @@ public final class LanguageTest {
             }
         }
         Checks.holds("some twelve classes", SloshTank.class.getDeclaredClasses().length < 12);
+    }
+
+    private static void sizes() {
+        sizesOf(SloshTank.class);
+        for (Class<?> c : SloshTank.class.getDeclaredClasses()) {
+            sizesOf(c);
+        }
+    }
+
+    private static void sizesOf(Class<?> c) {
+        int fields = 0;
+        for (Field f : c.getDeclaredFields()) {
+            boolean isConstant = Modifier.isStatic(f.getModifiers());
+            Checks.holds(c.getName() + "." + f.getName() + ", if static, is final", !isConstant || Modifier.isFinal(f.getModifiers()));
+            fields += isConstant ? 0 : 1;
+        }
+        Checks.holds(c.getName() + " has some twenty fields at most", fields <= 20);
+        for (Method m : c.getDeclaredMethods()) {
+            Checks.holds(m.getName() + " takes seven parameters at most", m.getParameterCount() <= 7);
+        }
     }
 
     /** A method here begins behind a line that ends with ") {", four or eight blanks in, and ends at its brace. */
